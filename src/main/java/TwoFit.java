@@ -158,7 +158,7 @@ public final class TwoFit {
         if (!isLive(b, i) || !isLive(b, j) || i == j || !isColumn(c)) {
             return false;
         }
-        if (books[b].shown(i, c) == books[b].shown(j, c)) {
+        if (books[b].nodeAt(i, c) == books[b].nodeAt(j, c)) {
             return false;
         }
         books[b].exchange(i, j, c);
@@ -209,7 +209,7 @@ public final class TwoFit {
         if (c == COLUMNS) {
             return books[b].owner(i);
         }
-        return isLive(b, i) ? books[b].shown(i, c) : NO_ANSWER;
+        return isLive(b, i) ? books[b].nodeAt(i, c) : NO_ANSWER;
     }
 
     // ---- who fits, and givings: promises 16 to 23
@@ -221,7 +221,8 @@ public final class TwoFit {
         if (!isLive(b, i)) {
             return NO_ANSWER;
         }
-        return fitting(b, i, known);
+        fit(b, known);
+        return matching.fit[i];
     }
 
     public long givings(int b, int known) {
@@ -342,7 +343,8 @@ public final class TwoFit {
         if (!isLive(b, i)) {
             return NO_ANSWER;
         }
-        int sought = fitting(b, i, known);
+        fit(b, known);
+        int sought = matching.fit[i];
         if (sought == 0 || someAlike(sought)) {
             return NO_ANSWER;
         }
@@ -380,7 +382,7 @@ public final class TwoFit {
         if (!isBook(b) || !isBar(k) || !within(what, 0, 3)) {
             return NONE;
         }
-        int best = NO_ANSWER;
+        int answer = NO_ANSWER;
         int most = NONE;
         layOut(b, openFor(b));
         for (int c = 0; c < COLUMNS; c++) {
@@ -389,12 +391,12 @@ public final class TwoFit {
                     int safe = safeIfSwapped(b, k, i, j, c);
                     if (safe > most) {
                         most = safe;
-                        best = what == 0 ? c : what == 1 ? i : j;
+                        answer = what == 0 ? c : what == 1 ? i : what == 2 ? j : safe;
                     }
                 }
             }
         }
-        return what == 3 && most != NONE ? most : best;
+        return answer;
     }
 
     public int together(int k, int what) {
@@ -442,7 +444,7 @@ public final class TwoFit {
         }
         int wrong = NONE;
         for (int c = 0; c < n && wrong == NONE; c++) {
-            if (tape.number(4 * c) != books[b].shown(i, c)) {
+            if (tape.number(4 * c) != books[b].nodeAt(i, c)) {
                 wrong = c;
             }
         }
@@ -503,11 +505,11 @@ public final class TwoFit {
     }
 
     private boolean isPerson(int p) {
-        return within(p, 0, people - 1);
+        return p >= 0 && p < people;
     }
 
     private boolean isBook(int b) {
-        return within(b, 0, bookCount - 1);
+        return b >= 0 && b < bookCount;
     }
 
     /** CUT ones, too. */
@@ -616,7 +618,10 @@ public final class TwoFit {
         return shownBooks() | 1 << b;
     }
 
-    /** Tells the matching which LINES each LINE of a BOOK is laid on, LINKS leading through open BOOKS. */
+    /**
+     * Tells the matching which LINES each LINE of a BOOK is laid on, LINKS leading through open
+     * BOOKS. It is apart from fitLaid(), as searches fit one laid out BOOK many times.
+     */
     private void layOut(int b, int open) {
         int alive = 0;
         for (int x = 0; x < bookCount; x++) {
@@ -643,11 +648,6 @@ public final class TwoFit {
         fitLaid(b, known);
     }
 
-    private int fitting(int b, int i, int known) {
-        fit(b, known);
-        return matching.fit[i];
-    }
-
     /** Who fits all LINES of a set of places. */
     private int fitAll(int laid, int known) {
         int who = (1 << people) - 1;
@@ -662,9 +662,9 @@ public final class TwoFit {
     }
 
     private int fitAlone(int b, int i, int known) {
-        int who = columns[0].whoBelow(books[b].shown(i, 0));
+        int who = columns[0].whoBelow(books[b].nodeAt(i, 0));
         for (int c = 1; c < COLUMNS; c++) {
-            who &= columns[c].whoBelow(books[b].shown(i, c));
+            who &= columns[c].whoBelow(books[b].nodeAt(i, c));
         }
         for (int g = 0; g < GOSSIPS; g++) {
             if ((known >> g & 1) == 1 && gossips[g].isOf(b, i)) {
@@ -717,7 +717,7 @@ public final class TwoFit {
     private int lossOfLine(Book book, int i) {
         int sum = 0;
         for (int c = 0; c < COLUMNS; c++) {
-            sum += columns[c].lossOf(book.shown(i, c));
+            sum += columns[c].lossOf(book.nodeAt(i, c));
         }
         return sum;
     }
@@ -927,13 +927,13 @@ public final class TwoFit {
             }
         }
 
-        int shown(int i, int c) {
-            return i >= 0 && i < lines && isColumn(c) ? nodes[i][c] : NONE;
+        int nodeAt(int i, int c) {
+            return i >= 0 && i < lines && c >= 0 && c < COLUMNS ? nodes[i][c] : NONE;
         }
 
         void exchange(int i, int j, int c) {
-            int first = shown(i, c);
-            put(i, c, shown(j, c));
+            int first = nodeAt(i, c);
+            put(i, c, nodeAt(j, c));
             put(j, c, first);
         }
     }

@@ -3,7 +3,7 @@ import java.util.Random;
 
 /** Makes long runs of calls, always the same ones, and compares each answer with Plain's. */
 public final class ComparedTest {
-    private static final int RUNS = 400;
+    private static final int RUNS = 160;
     private static int wrong = 0;
     private static long compared = 0;
 
@@ -12,9 +12,11 @@ public final class ComparedTest {
     private final Plain y = new Plain();
     private final StringBuilder told = new StringBuilder();
     private final int values;
+    private final boolean isWild;
     private int calls = 0;
 
     private ComparedTest(int seed) {
+        isWild = seed % 2 == 0;
         random = new Random(seed);
         values = 1 + random.nextInt(seed % 3 == 0 ? 16 : 5);
     }
@@ -65,8 +67,11 @@ public final class ComparedTest {
 
     private void run() {
         int before = wrong;
-        for (int i = 0; i < 25; i++) {
+        for (int i = 0; i < 25 && isWild; i++) {
             upper();
+        }
+        if (!isWild) {
+            wellGrownTrees();
         }
         int people = 1 + n(8) + (n(4) == 0 ? 8 : 0);
         for (int i = 0; i < people; i++) {
@@ -79,7 +84,7 @@ public final class ComparedTest {
 
     private void step(int kind) {
         switch (kind) {
-            case 0: if (n(3) == 0) upper(); break;
+            case 0: if (n(isWild ? 3 : 25) == 0) upper(); break;
             case 1: if (n(3) == 0) weight(); break;
             case 2: if (n(3) == 0) person(); break;
             case 3: if (n(2) == 0) wish(); break;
@@ -95,10 +100,25 @@ public final class ComparedTest {
         }
     }
 
+    private void wellGrownTrees() {
+        for (int c = 0; c < 4; c++) {
+            int wide = 2 + n(3);
+            for (int value = 0; value < 16; value++) {
+                upper(c, value, 16 + value / wide);
+            }
+            for (int node = 16; node < 24; node++) {
+                upper(c, node, 24 + (node - 16) / wide);
+            }
+        }
+    }
+
     private void upper() {
-        int c = some(4);
         int node = some(n(3) == 0 ? 32 : 20);
         int up = n(8) == 0 ? -1 : n(10) == 0 ? some(33) : 16 + n(n(2) == 0 ? 16 : 6);
+        upper(some(4), node, up);
+    }
+
+    private void upper(int c, int node, int up) {
         same(call("upper", c, node, up), of(x.upper(c, node, up)), of(y.upper(c, node, up)));
     }
 
