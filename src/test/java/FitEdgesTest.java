@@ -10,6 +10,7 @@ public final class FitEdgesTest extends Edges {
         fitsAsTheTreesAreNow();
         valuesOfAllColumns();
         linkedAlsoByOthers();
+        theLongestWayOfLinks();
         aBookThatIsNotShownLeadsNowhere();
         aCutLineLeadsNowhere();
         backIntoItsOwnBook();
@@ -133,6 +134,14 @@ public final class FitEdgesTest extends Edges {
         due("one who came later", x.fits(0, 0, 0), bits(0, 3));
         x.upper(0, 0, 31);
         due("not who it is of", x.fits(0, 0, 0), bits(3));
+        TwoFit y = new TwoFit();
+        y.upper(0, 0, 16);
+        y.person(5, 0, 0, 0);
+        y.person(0, 0, 0, 0);
+        book(y, 0, 0, 0, 0, 1);
+        book(y, 1, 0, 0, 0, 1);
+        due("a TREE that is older than the first PERSON", y.fits(0, 0, 0), bits(1));
+        due("and its NODE", y.fits(1, 0, 0), bits(1));
     }
 
     /** "whose VALUES are BELOW all that it shows": in each COLUMN. */
@@ -187,6 +196,31 @@ public final class FitEdgesTest extends Edges {
         due("by what the other one shows", y.fits(0, 0, 0), bits(2));
         y.link(0, 0, 2, 0);
         due("who FITS all of them: nobody", y.fits(0, 0, 0), 0);
+    }
+
+    /** Through all 32 LINES there are, whatever LINK is told first. */
+    private static void theLongestWayOfLinks() {
+        for (int order = 0; order < 2; order++) {
+            TwoFit x = new TwoFit();
+            for (int p = 0; p < 8; p++) {
+                x.person(p, 0, 0, 0);
+            }
+            for (int b = 0; b < 4; b++) {
+                book(x, 1, 0, 0, 0, 0, 1, 2, 3, 4, 5, 6, 7);
+            }
+            for (int n = 0; n < 31; n++) {
+                int at = order == 0 ? n : 30 - n;
+                due("LINK", x.link(at % 4, at / 4, (at + 1) % 4, (at + 1) / 4), n + 1);
+            }
+            tell(x, 0, 3, 7, "p>5");
+            tell(x, 1, 0, 0, "p<7");
+            due("the first LINE by the last one's GOSSIP", x.fits(0, 0, 1), bits(6, 7));
+            due("the last LINE by the first one's GOSSIP", x.fits(3, 7, 2), 127);
+            due("by both in the middle", x.fits(3, 3, 3), bits(6));
+            x.cut(2, 4);
+            due("one on the way is CUT", x.fits(0, 0, 3), 127);
+            due("behind it", x.fits(3, 4, 3), bits(6, 7));
+        }
     }
 
     /** "a LINK with a LINE of a BOOK that is not SHOWN .. leads nowhere"; its own need not be SHOWN. */
@@ -429,6 +463,9 @@ public final class FitEdgesTest extends Edges {
         TwoFit x = lines(4, "p<4", "p=3", "p=3");
         due("there is none", x.giving(0, 0, 7), -2);
         due("of none of them", x.giving(0, 2, 7), -2);
+        due("nobody FITS a LINE ahead of it", lines(4, "p>9", "p<4", "p=3").giving(0, 1, 7), -2);
+        due("nor the last one's", lines(4, "p>9", "p<4", "p=3").giving(0, 2, 7), -2);
+        due("nobody FITS a LINE behind it", lines(4, "p=3", "p<4", "p>9").giving(0, 0, 7), -2);
         due("NONE ahead of it", x.giving(0, 3, 7), NONE);
         due("with one known less", x.giving(0, 2, 5), 3);
         x.cut(0, 2);
@@ -577,6 +614,12 @@ public final class FitEdgesTest extends Edges {
         due("no ROUND", x.steps(0, 3, -1), 0);
         x.cut(0, 1);
         due("of no LINES", x.steps(0, 3, -1), 0);
+        TwoFit y = wide(16, 8);
+        y.cut(0, 7);
+        y.cut(0, 0);
+        due("the last of eight", y.steps(0, 0, 7), -2);
+        due("the first of eight", y.steps(0, 0, 0), -2);
+        due("one between", y.steps(0, 0, 6), EVERYBODY);
     }
 
     // ---- promise 23

@@ -40,6 +40,9 @@ public final class LanguageTest {
         int methods = 0;
         for (var method : TwoFit.class.getDeclaredMethods()) {
             methods += Modifier.isPublic(method.getModifiers()) ? 1 : 0;
+            if (method.getParameterCount() > 7) {
+                tell("more than seven parameters: " + method);
+            }
             if (!Modifier.isPublic(method.getModifiers()) && !Modifier.isPrivate(method.getModifiers())) {
                 tell("not private: " + method);
             }
@@ -58,7 +61,15 @@ public final class LanguageTest {
                 tell("not private: " + field);
             }
         }
+        if (TwoFit.class.getDeclaredClasses().length > 11) {
+            tell("more than twelve classes");
+        }
         for (var inside : TwoFit.class.getDeclaredClasses()) {
+            for (var method : inside.getDeclaredMethods()) {
+                if (method.getParameterCount() > 7) {
+                    tell("more than seven parameters: " + method);
+                }
+            }
             if (!Modifier.isStatic(inside.getModifiers()) || !Modifier.isPrivate(inside.getModifiers())) {
                 tell("not private and static: " + inside);
             }

@@ -17,6 +17,8 @@ public final class SearchEdgesTest extends Edges {
         questionsOfNobodyAndOfACutLine();
         questionsOfThoseWhoFit();
         theFewestQuestions();
+        questionsThatAreAlwaysEnough();
+        questionsOfManyKinds();
         theFirstQuestion();
         questionsAsTheTreesAreNow();
         blurringIsRefused();
@@ -246,6 +248,51 @@ public final class SearchEdgesTest extends Edges {
         questionsOf("the other 8", y, 0, 1, 3, 0, 0);
     }
 
+    /** One half is told apart by pairs, the other one is not: the worse one counts. */
+    private static void questionsThatAreAlwaysEnough() {
+        TwoFit x = wide(8, 1);
+        for (int value = 0; value < 4; value++) {
+            x.upper(0, value, 16 + value / 2);
+        }
+        x.upper(0, 16, 20);
+        x.upper(0, 17, 20);
+        questionsOf("one half by pairs, one of the other one first", x, 0, 0, 4, 0, 4);
+        for (int value = 4; value < 8; value++) {
+            x.upper(0, value, 16 + value / 2);
+        }
+        questionsOf("both by pairs", x, 0, 0, 3, 0, 20);
+        x.upper(0, 4, -1);
+        questionsOf("one pair is enough for four", x, 0, 0, 3, 0, 20);
+        x.upper(0, 6, -1);
+        questionsOf("none is not", x, 0, 0, 4, 0, 4);
+    }
+
+    /** Each COLUMN tells other pairs apart, the last one also halves. */
+    private static void questionsOfManyKinds() {
+        TwoFit x = new TwoFit();
+        int[][] others = {{1, 0}, {2, 1}, {3, 2}, {0, 0}};
+        for (int c = 0; c < 3; c++) {
+            int node = 16;
+            for (int value = 0; value < 16; value++) {
+                int other = value ^ others[c][0];
+                if (value < other) {
+                    x.upper(c, value, node);
+                    x.upper(c, other, node);
+                    node++;
+                }
+            }
+        }
+        for (int p = 0; p < 16; p++) {
+            x.person(p, p, p, p);
+        }
+        book(x, 2, 2, 2, 1, 0);
+        questionsOf("pairs alone", x, 0, 0, 8, 0, 16);
+        for (int value = 0; value < 8; value++) {
+            x.upper(3, value, 31);
+        }
+        questionsOf("halved by the last NODE", x, 0, 0, 5, 3, 31);
+    }
+
     /** "the least COLUMN, then NODE, by which they are enough", NODES 0 to 31. */
     private static void theFirstQuestion() {
         TwoFit x = new TwoFit();
@@ -293,6 +340,12 @@ public final class SearchEdgesTest extends Edges {
         questionsOf("halved twice", x, 0, 0, 3, 0, 20);
         x.upper(0, 17, -1);
         questionsOf("by less", x, 0, 0, 4, 0, 17);
+        TwoFit z = row(4);
+        z.upper(0, 0, 16);
+        book(z, 4, 0, 0, 0, 0);
+        questionsOf("one UPPER was told", z, 0, 0, 3, 0, 0);
+        z.upper(0, 1, 16);
+        questionsOf("one more", z, 0, 0, 2, 0, 16);
         keeps("questions", Edges::town, TAPE, y -> y.questions(1, 0, 0, 0), 3);
     }
 
@@ -734,10 +787,13 @@ public final class SearchEdgesTest extends Edges {
         book(x, 1, 0, 0, 0, 3);
         x.link(0, 1, 1, 0);
         for (int g = 0; g < 8; g++) {
-            tell(x, g, g % 2, g % 2, "p=9");
-            tell(x, g, 1, 0, "p=9");
+            due("a GOSSIP of each LINE", tell(x, g, g / 4, g < 4 ? g % 2 : 0, "p=9"), 1);
         }
         togetherOf("GOSSIPS say nothing", x, 4, -2, -2, -2);
+        x.upper(0, 3, 16);
+        book(x, 1, 0, 0, 0, 3);
+        x.link(0, 0, 2, 0);
+        togetherOf("nor of a BOOK by itself", x, 2, 0, 0, bits(3));
         TwoFit y = wide(4, 2);
         y.upper(0, 2, 16);
         y.upper(0, 3, 16);
